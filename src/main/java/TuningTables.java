@@ -498,13 +498,12 @@ public final class TuningTables {
             return step == count ? period : steps[step];
         }
 
-        /** Becomes what a TEXT without FAULT says. */
+        /** Becomes what a TEXT without FAULT says; STEP 0 is UNISON ever since it was made. */
         void take(Text text) {
             count = text.count;
             for (int step = 1; step < count; step++) {
                 setNote(steps[step], text.pitches, (step - 1) * PRIMES);
             }
-            steps[0].clear();
             setNote(period, text.pitches, (count - 1) * PRIMES);
             arrange();
         }
