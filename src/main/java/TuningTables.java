@@ -429,7 +429,9 @@ public final class TuningTables {
         }
 
         void beginPitch(int at) {
-            Arrays.fill(pitches, count * PRIMES, (count + 1) * PRIMES, 0);
+            for (int prime = 0; prime < PRIMES; prime++) {
+                pitches[count * PRIMES + prime] = 0;
+            }
             count++;
             pitchPlace = at;
             state = BEHIND_NUMBER;
@@ -680,6 +682,8 @@ public final class TuningTables {
         /**
          * The TERM, x being what is left then; or WIDE. A count that timesOf cuts off is above 800:
          * so many times y, which is not UNISON, lead from any x that is not wide to one that is.
+         * A count that is not WIDE, and one more, leave EXPONENTS up to 800, where sizes are exact;
+         * as they fall with every y that is taken, it does not matter what timesOf tries beyond.
          */
         static int takeTerm(Note x, Note y) {
             if (x.isWide() || y.isWide()) {
