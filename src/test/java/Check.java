@@ -19,6 +19,10 @@ final class Check {
         }
     }
 
+    int wrongOnes() {
+        return wrong;
+    }
+
     boolean isClean() {
         return wrong == 0;
     }
