@@ -10,7 +10,7 @@ public final class NoteSentencesTest {
 
     // ---- Promise 5: steps
 
-    @Sentence("How many STEPS the SCALE has (n from 1 to 24).")
+    @Sentence("(n from 1 to 24) .. How many STEPS the SCALE has.")
     private static void promise5_from1To24() {
         Trial chains = new Trial().steps(1);
         for (int n = 24; n >= 1; n--) {
@@ -70,7 +70,7 @@ public final class NoteSentencesTest {
             .chain(2, 2, 0, 1).exponent(3, 0, UNKNOWN).exponent(24, 0, UNKNOWN);
     }
 
-    @Sentence("OUTSIDE (another number out of its bounds): PRIME 0 to 5")
+    @Sentence("OUTSIDE (another number out of its bounds) .. An EXPONENT (PRIME 0 to 5)")
     private static void promise6_primesThatThereAreNot() {
         Trial scale = Trial.of("3/2 13/8 2", 3);
         for (int step = 0; step <= 3; step++) {
@@ -127,7 +127,7 @@ public final class NoteSentencesTest {
         new Trial().key(-1, 0, -1).key(0, 0, 0).key(1, 0, 1);
     }
 
-    @Sentence("KEY k (-200 to 200). OUTSIDE.")
+    @Sentence("An EXPONENT of KEY k (-200 to 200) .. OUTSIDE.")
     private static void promise7_theBoundsOfAKey() {
         Trial scale = Trial.of("3/2 5 12", 3).key(200, 0, 132).key(200, 2, 1).key(-200, 0, -135).key(-200, 1, -66);
         scale.key(201, 0, OUTSIDE).key(-201, 0, OUTSIDE).key(1000, 5, OUTSIDE).key(-1000, 5, OUTSIDE);
@@ -138,7 +138,7 @@ public final class NoteSentencesTest {
         Trial.of(FULL, 24).key(200, 0, 16).key(200, 3, 1).key(-200, 0, -18).key(201, 0, OUTSIDE).key(-201, 0, OUTSIDE);
     }
 
-    @Sentence("An EXPONENT of KEY k .. OUTSIDE (PRIMES 0 to 5)")
+    @Sentence("PRIMES 0 to 5 .. An EXPONENT of KEY k .. OUTSIDE.")
     private static void promise7_primesThatThereAreNot() {
         Trial scale = Trial.of("13/8 2", 2).key(1, 0, -3).key(1, 5, 1).key(1, -1, OUTSIDE).key(1, 6, OUTSIDE)
             .key(201, 6, OUTSIDE).key(-201, -1, OUTSIDE);

@@ -101,7 +101,7 @@ public final class PartsSentencesTest {
         }
     }
 
-    @Sentence("m equal parts (1 to 36). OUTSIDE")
+    @Sentence("The PERIOD is parted into m equal parts (1 to 36). .. The DEGREE of a STEP in m parts. .. OUTSIDE.")
     private static void promise14_1And36Parts() {
         Trial scale = Trial.of("3/2 7 2", 3).degree(1, 1, 1).degree(2, 1, 3).degree(1, 36, 21).degree(2, 36, 101).degree(1, 2, 1).degree(1, 35, 20)
             .degree(1, 0, OUTSIDE).degree(1, 37, OUTSIDE).degree(1, -1, OUTSIDE).degree(0, 0, OUTSIDE).degree(0, 37, OUTSIDE);
@@ -160,7 +160,7 @@ public final class PartsSentencesTest {
         }
     }
 
-    @Sentence("m equal parts (1 to 36). OUTSIDE.")
+    @Sentence("The PERIOD is parted into m equal parts (1 to 36). .. The DEGREE of a PRIME in m parts. OUTSIDE.")
     private static void promise15_1And36Parts() {
         Trial scale = new Trial().prime(0, 1, 1).prime(1, 1, 2).prime(5, 1, 4).prime(0, 36, 36).prime(1, 36, 57).prime(5, 36, 133)
             .prime(0, 0, OUTSIDE).prime(0, 37, OUTSIDE).prime(5, 0, OUTSIDE).prime(5, 37, OUTSIDE).prime(0, -1, OUTSIDE);
@@ -169,7 +169,7 @@ public final class PartsSentencesTest {
         }
     }
 
-    @Sentence("PRIMES 0 to 5. OUTSIDE.")
+    @Sentence("PRIMES 0 to 5 .. The DEGREE of a PRIME in m parts. OUTSIDE.")
     private static void promise15_primesThatThereAreNot() {
         Trial scale = new Trial().prime(-1, 12, OUTSIDE).prime(6, 12, OUTSIDE).prime(-1, 1, OUTSIDE).prime(6, 36, OUTSIDE).prime(6, 37, OUTSIDE).prime(-1, 0, OUTSIDE);
         for (int far : FAR) {
@@ -177,7 +177,7 @@ public final class PartsSentencesTest {
         }
     }
 
-    @Sentence("The PERIOD is parted: the one that there is")
+    @Sentence("The PERIOD is parted into m equal parts")
     private static void promise15_thePeriodThatThereIs() {
         new Trial().prime(1, 12, 19).spell("3").read(1).prime(1, 12, 12).prime(0, 12, 8).spell("14").read(-15).prime(1, 12, 12)
             .chain(24, 24, 0, 0, 1).prime(1, 12, 12).prime(0, 12, 8).chain(OUTSIDE, 0).prime(0, 12, 8).spell("2").read(1).prime(1, 12, 19).prime(0, 12, 12);
@@ -232,7 +232,7 @@ public final class PartsSentencesTest {
         }
     }
 
-    @Sentence("m equal parts (1 to 36). OUTSIDE")
+    @Sentence("The PERIOD is parted into m equal parts (1 to 36). .. What m parts MAKE of a STEP. UNKNOWN; OUTSIDE.")
     private static void promise16_1And36Parts() {
         Trial scale = Trial.of("3/2 2", 2).makes(1, 1, 1).makes(1, 36, 21).makes(1, 0, OUTSIDE).makes(1, 37, OUTSIDE).makes(1, -1, OUTSIDE)
             .makes(0, 0, OUTSIDE).makes(0, 37, OUTSIDE);
@@ -274,7 +274,7 @@ public final class PartsSentencesTest {
         }
     }
 
-    @Sentence("The least m (1 to 36)")
+    @Sentence("m equal parts (1 to 36) .. The least m for which m parts MAKE 0 of a STEP")
     private static void promise17_1And36() {
         Trial.of("975/896 896/975 10", 3).tempers(0, 1).tempers(1, 36).tempers(2, 36).makes(1, 36, 0);
         new Trial().tempers(0, 1);
@@ -319,7 +319,7 @@ public final class PartsSentencesTest {
         Trial.of("78/77 13", 2).terms(1, 0, 198, 1, WIDE);
     }
 
-    @Sentence("TERM i (0 to 9). OUTSIDE")
+    @Sentence("TERM i (0 to 9) of a STEP .. OUTSIDE")
     private static void promise18_terms0And9() {
         Trial scale = Trial.of("20/13 65/21 2", 3).terms(1, 0, 1, 1, 1, 1, 1, 3, 1, 4, 1, OUTSIDE, OUTSIDE).terms(2, 1, 1, 1, 1, 2, 2, 1, 2, 1, 1, OUTSIDE)
             .term(1, -1, OUTSIDE).term(1, -2, OUTSIDE).term(2, -1, OUTSIDE);
@@ -328,7 +328,7 @@ public final class PartsSentencesTest {
         }
     }
 
-    @Sentence("If that is UNISON there are no more TERMS. NONE: there are not so many")
+    @Sentence("If that is UNISON there are no more TERMS .. NONE: there are not so many")
     private static void promise18_noMoreTerms() {
         Trial.of("2 4 8 524288 2", 5).terms(1, 1, NONE, NONE, NONE, NONE, NONE, NONE, NONE, NONE, NONE, OUTSIDE).terms(2, 2, NONE).terms(3, 3, NONE)
             .terms(4, 19, NONE).term(4, 9, NONE);

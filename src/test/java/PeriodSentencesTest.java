@@ -41,7 +41,7 @@ public final class PeriodSentencesTest {
         Trial.of("246402/123200 246400/123201 123201/123200 123200/123201 2", 5).reduce(1, 1).reduce(2, 0).reduce(3, 0).reduce(4, -1);
     }
 
-    @Sentence("How many PERIODS are taken from a STEP that it is REDUCED. (below 0: added)")
+    @Sentence("so many PERIODS are taken from it (below 0: added) .. How many PERIODS are taken from a STEP that it is REDUCED.")
     private static void promise9_notesBelowUnison() {
         Trial.of("9/10 1/3 1/9 1/10 1/27 1/28 3", 7).reduce(1, -1).reduce(2, -1).reduce(3, -2).reduce(4, -3).reduce(5, -3).reduce(6, -4);
     }
@@ -121,7 +121,7 @@ public final class PeriodSentencesTest {
 
     // ---- Promise 11: gap
 
-    @Sentence("of the one at i in THE ORDER, what the next one has more, REDUCED as they are")
+    @Sentence("of the one at i in THE ORDER, what the next one .. has more, REDUCED as they are")
     private static void promise11_theNextInTheOrder() {
         Trial.of("5/2 3 1/3 2", 4).gapNote(0, -2, 0, 1).gapNote(1, 4, -1, -1).gapNote(2, -3, 2).gapNote(3, 2, -1);
         Trial.of("7 11/6 13/2 5", 4).gapNote(0, -1, 0, -1, 0, 0, 1).gapNote(1, 1, 0, 0, 1, 0, -1).gapNote(2, -1, -1, 1, -1, 1)
@@ -136,14 +136,14 @@ public final class PeriodSentencesTest {
         Trial.of("2 1 2", 3).gapNote(2, 1);
     }
 
-    @Sentence("A SCALE has STEPS 0 to n - 1 (n from 1 to 24): the GAP of one STEP")
+    @Sentence("At first it has one STEP .. GAPS: .. (behind the last one: STEP 0, and the PERIOD)")
     private static void promise11_oneStep() {
         new Trial().gapNote(0, 1).gap(1, 0, UNKNOWN);
         Trial.of("12", 1).gapNote(0, 2, 1).gap(1, 0, UNKNOWN);
         Trial.of("3/2 13", 2).chain(1, 1, 2, 2).gapNote(0, 0, 0, 0, 0, 0, 1).gap(1, 0, UNKNOWN);
     }
 
-    @Sentence("equal ones by their numbers .. what the next one has more")
+    @Sentence("equal ones by their numbers .. what the next one .. has more")
     private static void promise11_equalReducedSteps() {
         Trial.of("3/2 6 3 2 2", 5).gapNote(0).gapNote(1, -1, 1).gapNote(2).gapNote(3).gapNote(4, 2, -1);
     }
@@ -173,7 +173,7 @@ public final class PeriodSentencesTest {
         Trial.of(DIFFERENT, 24).gap(23, 0, 2).gap(24, 0, UNKNOWN).chain(2, 2, 0, 1).gap(1, 0, 2).gap(2, 0, UNKNOWN);
     }
 
-    @Sentence("OUTSIDE (another number out of its bounds): PRIMES 0 to 5")
+    @Sentence("OUTSIDE (another number out of its bounds) .. An EXPONENT of the GAP")
     private static void promise11_primesThatThereAreNot() {
         Trial scale = Trial.of("13/8 2", 2).gap(0, 5, 1).gap(0, -1, OUTSIDE).gap(0, 6, OUTSIDE).gap(1, 6, OUTSIDE).gap(1, -1, OUTSIDE);
         for (int far : FAR) {
@@ -250,13 +250,13 @@ public final class PeriodSentencesTest {
         }
     }
 
-    @Sentence("The SCALE becomes a CHAIN of n STEPS: n. (none, one, two, .. n - 1 of that NOTE together, each REDUCED, the lower first)")
+    @Sentence("of n STEPS: none, one, two, .. n - 1 of that NOTE together, each REDUCED, the lower first")
     private static void promise13_fifths() {
         new Trial().chain(7, 7, -1, 1).note(0).note(1, -3, 2).note(2, -6, 4).note(3, -9, 6).note(4, -1, 1).note(5, -4, 3).note(6, -7, 5).note(7, 1);
         new Trial().chain(3, 3, 0, -1).note(0).note(1, 2, -1).note(2, 4, -2).note(3, 1);
     }
 
-    @Sentence("A CHAIN of n STEPS (n from 1 to 24)")
+    @Sentence("(n from 1 to 24) .. The SCALE becomes a CHAIN of n STEPS")
     private static void promise13_1And24Steps() {
         new Trial().chain(1, 1, 0, 1).steps(1).note(0).note(1, 1).exponent(2, 0, UNKNOWN);
         new Trial().chain(1, 1, 2, 2, 2, 2, 2, 2).note(0).note(1, 1);

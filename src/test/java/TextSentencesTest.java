@@ -32,7 +32,7 @@ public final class TextSentencesTest {
 
     // ---- Promise 1: A new object
 
-    @Sentence("The SCALE as at first: At first it has one STEP, and the PERIOD 2.")
+    @Sentence("At first it has one STEP, and the PERIOD 2. .. The SCALE as at first")
     private static void promise1_oneStepAndThePeriod2() {
         new Trial().steps(1).note(0).note(1, 1).exponent(2, 0, UNKNOWN);
         new Trial().reduce(0, 0).order(0, 0).order(1, UNKNOWN).gapNote(0, 1).gaps(1).key(-200, 0, -200);
@@ -60,7 +60,7 @@ public final class TextSentencesTest {
         new Trial().sign('3', 1).sign(' ', 2).sign('5', 3).read(2).note(1, 0, 1).note(2, 0, 0, 1);
     }
 
-    @Sentence("A TEXT has bytes 10 and 32 to 126. OUTSIDE")
+    @Sentence("A TEXT has bytes 10 and 32 to 126 .. OUTSIDE")
     private static void promise2_bytes10And32To126() {
         for (int c = -300; c <= 600; c++) {
             boolean allowed = c == 10 || c >= 32 && c <= 126;
@@ -71,7 +71,7 @@ public final class TextSentencesTest {
         }
     }
 
-    @Sentence("A TEXT has bytes .., 300 at most. ROOM")
+    @Sentence("A TEXT has bytes .. 300 at most .. ROOM")
     private static void promise2_300AtMost() {
         Trial.of(behindBlanks("12"), 1).note(1, 2, 1);
         new Trial().spell(behindBlanks("12")).sign('0', ROOM).sign('?', ROOM).sign(10, ROOM).read(1).note(1, 2, 1);
@@ -105,7 +105,7 @@ public final class TextSentencesTest {
         }
     }
 
-    @Sentence("is the SCALE: how many STEPS (n from 1 to 24)")
+    @Sentence("(n from 1 to 24) .. is the SCALE: how many STEPS")
     private static void promise3_howManySteps() {
         for (int n = 1; n <= 24; n++) {
             new Trial().spell("3/2 ".repeat(n - 1) + "2").read(n).steps(n).exponent(n, 0, 1).exponent(n + 1, 0, UNKNOWN);
@@ -177,15 +177,26 @@ public final class TextSentencesTest {
         Trial.of("1000 100 2", 3).note(1, 3, 0, 3).note(2, 2, 0, 2);
     }
 
-    @Sentence("comments: # and all behind it up to the next 10 or the end")
-    private static void promise3_comments() {
-        Trial.of("#\n3#\n/#//\n2#2 2\n2#", 2).note(1, -1, 1).note(2, 1);
+    @Sentence("comments: # and all behind it up to the next 10")
+    private static void promise3_commentsUpToTheNext10() {
+        Trial.of("#\n3#\n/#//\n2#2 2\n2", 2).note(1, -1, 1).note(2, 1);
         Trial.of("3 # 17 0 / ## 1234567\n2", 2).note(1, 0, 1).note(2, 1);
         Trial.of("#" + NO_TOKENS + "\n2", 1).note(1, 1);
-        Trial.of("2#" + NO_TOKENS, 1).note(1, 1);
         Trial.of("1#2\n2", 2).note(1).note(2, 1);
-        Trial.of("2#" + "x".repeat(298), 1).note(1, 1);
         Trial.of("#" + "/".repeat(297) + "\n3", 1).note(1, 0, 1);
+    }
+
+    @Sentence("comments: # and all behind it up to .. the end")
+    private static void promise3_commentsUpToTheEnd() {
+        Trial.of("2#", 1).note(1, 1);
+        Trial.of("2#" + NO_TOKENS, 1).note(1, 1);
+        Trial.of("12#2", 1).note(1, 2, 1);
+        Trial.of("2 # 17 0 / ## 1234567 3", 1).note(1, 1);
+        Trial.of("2#" + "x".repeat(298), 1).note(1, 1);
+    }
+
+    @Sentence("comments: # and all behind it up to the next 10 .. FAULTS")
+    private static void promise3_placesBehindComments() {
         Trial.fault("2 #\n?", 1, 4);
         Trial.fault("2#\n/ #\n/", 2, 7);
         Trial.fault("#\n\n#\n17#", 3, 5);
@@ -193,7 +204,7 @@ public final class TextSentencesTest {
         Trial.fault("#2\n14#2", 5, 3);
     }
 
-    @Sentence("A TEXT is PITCHES, one at least .. 2 .. the end, that can't stand there (the end: the TEXT's length)")
+    @Sentence("A TEXT is PITCHES, one at least .. 2 a TOKEN, or the end, that can't stand there .. the end: the TEXT's length")
     private static void promise3_fault2_noPitchAtAll() {
         Trial.fault("", 2, 0);
         Trial.fault(" ", 2, 1);
@@ -205,7 +216,7 @@ public final class TextSentencesTest {
         Trial.fault("#" + "2".repeat(299), 2, 300);
     }
 
-    @Sentence("2 .. the end, that can't stand there (the end: the TEXT's length)")
+    @Sentence("2 a TOKEN, or the end, that can't stand there .. the end: the TEXT's length")
     private static void promise3_fault2_theEndBehindAStroke() {
         Trial.fault("3/", 2, 2);
         Trial.fault("3/2 2/", 2, 6);
@@ -217,7 +228,7 @@ public final class TextSentencesTest {
         Trial.fault(PITCHES_23 + "2/", 2, 48);
     }
 
-    @Sentence("2 a TOKEN, .. that can't stand there (at it)")
+    @Sentence("2 a TOKEN, .. that can't stand there (at it")
     private static void promise3_fault2_aStrokeThatCantStandThere() {
         Trial.fault("/", 2, 0);
         Trial.fault(" /2", 2, 1);
@@ -238,7 +249,7 @@ public final class TextSentencesTest {
         Trial.of(PITCHES_23 + "4/2", 24).note(24, 1);
     }
 
-    @Sentence("3 a NUMBER that is 0 (at it)")
+    @Sentence("3 a NUMBER that is 0, .. (at it)")
     private static void promise3_fault3_aNumberThatIs0() {
         Trial.fault("0", 3, 0);
         Trial.fault("000000", 3, 0);
@@ -291,7 +302,7 @@ public final class TextSentencesTest {
         Trial.fault(PITCHES_23 + "1/17", 3, 48);
     }
 
-    @Sentence("4 a PITCH that would be the 25th (at its first TOKEN)")
+    @Sentence("4 a PITCH that would be the 25th (at its first TOKEN")
     private static void promise3_fault4_aPitchThatWouldBeThe25th() {
         Trial.of(PITCHES_23 + "2", 24).steps(24);
         Trial.of("1/1 ".repeat(23) + "2/1", 24).steps(24);
@@ -458,7 +469,7 @@ public final class TextSentencesTest {
         trial.chain(OUTSIDE, 0).place(4).sign(127, OUTSIDE).place(4).exponent(9, 9, UNKNOWN).place(4).read(2).place(NONE);
     }
 
-    @Sentence("(the end: the TEXT's length) .. 300 at most")
+    @Sentence("300 at most .. the end: the TEXT's length .. The place of the FAULT")
     private static void promise4_from0To300() {
         new Trial().spell("?").read(-11).place(0);
         new Trial().spell(" ".repeat(299) + "?").read(-11).place(299);
